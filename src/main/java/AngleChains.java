@@ -9,6 +9,8 @@ public final class AngleChains {
     public static final int FALSE = -2;
 
     private static final int MOST_POINTS = 7;
+    /** A packed POINT has three bits: rows of this length hold whatever three bits may say. */
+    private static final int POINT_CODES = 8;
     private static final int MOST_PAIRS = 21;
     private static final int MOST_COORDINATE = 1000;
     private static final int MOST_IN_DRAFT = 8;
@@ -24,15 +26,16 @@ public final class AngleChains {
 
     private static final int[] POINTS_OF_KIND = {3, 4, 4, 4, 4, 3, 8};
 
-    /** The number of the pair of POINTS a and b, at 7 a + b: pairs are counted as 01, 02, .. 56. */
+    /** The number of the pair of POINTS a and b, at 8 a + b: pairs are counted as 01, 02, .. 56. */
     private static final int[] PAIR_NUMBERS = {
-        0, 0, 1, 2, 3, 4, 5,
-        0, 0, 6, 7, 8, 9, 10,
-        1, 6, 0, 11, 12, 13, 14,
-        2, 7, 11, 0, 15, 16, 17,
-        3, 8, 12, 15, 0, 18, 19,
-        4, 9, 13, 16, 18, 0, 20,
-        5, 10, 14, 17, 19, 20, 0
+        0, 0, 1, 2, 3, 4, 5, 0,
+        0, 0, 6, 7, 8, 9, 10, 0,
+        1, 6, 0, 11, 12, 13, 14, 0,
+        2, 7, 11, 0, 15, 16, 17, 0,
+        3, 8, 12, 15, 0, 18, 19, 0,
+        4, 9, 13, 16, 18, 0, 20, 0,
+        5, 10, 14, 17, 19, 20, 0, 0,
+        0, 0, 0, 0, 0, 0, 0, 0
     };
 
     /** The two POINTS of each pair, as bits. */
@@ -131,13 +134,21 @@ public final class AngleChains {
         if (!deduction.shows(fact)) {
             return 0;
         }
-        int left = onBits;
-        for (int number = hypothesisCount - 1; number >= 0; number--) {
-            int fewer = left & ~(1 << number);
-            if (fewer != left) {
-                deduction.close(fewer);
-                left = deduction.shows(fact) ? fewer : left;
+        // More HYPOTHESES never take away what FOLLOWS. So, when all come one by one from the first
+        // on behind those that must stay, the one that brings the FACT is the next that must stay,
+        // and those behind it are left out.
+        int left = 0;
+        deduction.close(left);
+        for (int round = 0; round < hypothesisCount && !deduction.shows(fact); round++) {
+            int bits = left;
+            int newest = 0;
+            for (int number = 0; number < hypothesisCount && !deduction.shows(fact); number++) {
+                newest = onBits & 1 << number;
+                bits |= newest;
+                deduction.close(bits);
             }
+            left |= newest;
+            deduction.close(left);
         }
         leftBits = left;
         return Integer.bitCount(left);
@@ -219,10 +230,10 @@ public final class AngleChains {
             return NONE;
         }
         int fact = kind << 24 | points;
-        boolean proper = kind == COLLINEAR || kind == CIRCLE || kind == MIDDLE
+        boolean differs = kind == COLLINEAR || kind == CIRCLE || kind == MIDDLE
             ? Integer.bitCount(bitsOf(fact, count)) == count
             : hasPairsOfTwo(fact, count);
-        return proper ? fact : NONE;
+        return differs ? fact : NONE;
     }
 
     private static boolean hasPairsOfTwo(int fact, int count) {
@@ -252,7 +263,7 @@ public final class AngleChains {
     }
 
     private static int pairOf(int a, int b) {
-        return PAIR_NUMBERS[MOST_POINTS * a + b];
+        return PAIR_NUMBERS[POINT_CODES * a + b];
     }
 
     /** The number of the pair of the POINTS at two places of something packed. */
@@ -262,8 +273,8 @@ public final class AngleChains {
 
     /** THE FIGURE: the places of the POINTS, and what is TRUE there. */
     private static final class Figure {
-        private final int[] xs = new int[MOST_POINTS];
-        private final int[] ys = new int[MOST_POINTS];
+        private final int[] xs = new int[POINT_CODES];
+        private final int[] ys = new int[POINT_CODES];
         private int size;
 
         boolean has(int point) {
@@ -531,7 +542,9 @@ public final class AngleChains {
         }
 
         void writeTurns(int p, int q, int r, int s) {
-            writeDifference(p, q, 0);
+            Arrays.fill(row, 0);
+            row[p]++;
+            row[q]--;
             row[r]--;
             row[s]++;
         }
@@ -630,7 +643,7 @@ public final class AngleChains {
         /** The least pair in the LENGTH of each pair. */
         private final int[] lengthOf = new int[MOST_PAIRS];
         /** The POINTS of the CIRCLE of each three POINTS, as bits, by their bits; 0: there is none. */
-        private final int[] circleOf = new int[1 << MOST_POINTS];
+        private final int[] circleOf = new int[1 << POINT_CODES];
         /** The cases out of which something may still come. */
         private final int[] open = new int[Cases.MOST];
         private int openCount;
@@ -644,23 +657,25 @@ public final class AngleChains {
             this.cases = new Cases(figure);
         }
 
-        /** Goes forward to the end from the HYPOTHESES whose bits are given. */
+        /**
+         * Goes forward to the end from the HYPOTHESES whose bits are given: on from where it is,
+         * when it came there from some of them.
+         */
         void close(int bits) {
-            if (closedSize == figure.size && closedBits == bits) {
-                return;
-            }
             if (closedSize != figure.size) {
                 cases.find();
+                start();
+            } else if ((closedBits & ~bits) != 0) {
+                start();
             }
-            start();
             for (int number = 0; number < MOST_HYPOTHESES; number++) {
-                if ((bits >> number & 1) != 0) {
+                if (((bits & ~closedBits) >> number & 1) != 0) {
                     assume(hypotheses[number]);
                 }
             }
-            boolean goesOn = true;
+            closedBits = bits;
             // A round that brings anything new uses up a case, so these rounds are always enough.
-            for (int round = 0; round <= Cases.MOST && goesOn; round++) {
+            for (int round = 0; round <= Cases.MOST && (hasJoined || rows.hasGrown); round++) {
                 hasJoined = false;
                 rows.hasGrown = false;
                 int kept = 0;
@@ -671,13 +686,12 @@ public final class AngleChains {
                     }
                 }
                 openCount = kept;
-                goesOn = hasJoined || rows.hasGrown;
             }
-            closedSize = figure.size;
-            closedBits = bits;
         }
 
         private void start() {
+            closedSize = figure.size;
+            closedBits = 0;
             rows.clear();
             for (int pair = 0; pair < MOST_PAIRS; pair++) {
                 lineOf[pair] = PAIR_BITS[pair];
@@ -790,9 +804,10 @@ public final class AngleChains {
 
         /** All pairs keep their columns in the ROWS: a row says which of them are one LINE now. */
         private void joinLine(int bits) {
+            int before = 0;
             int all = bits;
-            // Each round but the last brings in one POINT or more.
-            for (int round = 0; round < MOST_POINTS; round++) {
+            for (int round = 0; round < MOST_POINTS && all != before; round++) {
+                before = all;
                 for (int pair = 0; pair < MOST_PAIRS; pair++) {
                     if (Integer.bitCount(lineOf[pair] & all) >= 2) {
                         all |= lineOf[pair];
@@ -816,9 +831,10 @@ public final class AngleChains {
         }
 
         private void joinCircle(int bits) {
+            int before = 0;
             int all = bits;
-            // Each round but the last brings in one POINT or more.
-            for (int round = 0; round < MOST_POINTS; round++) {
+            for (int round = 0; round < MOST_POINTS && all != before; round++) {
+                before = all;
                 for (int i = 0; i < TRIPLES.length; i++) {
                     int other = circleOf[TRIPLES[i]];
                     if (Integer.bitCount(other & all) >= 3) {
@@ -886,7 +902,7 @@ public final class AngleChains {
             return false;
         }
 
-        /** The three ways to see two of four POINTS from the others; the others are the same rows. */
+        /** Other orders of the four POINTS give these three rows again, or what they are times -1. */
         private boolean triesCircle(int packed) {
             int ab = pairAt(packed, 0, 1);
             int ac = pairAt(packed, 0, 2);
@@ -949,7 +965,10 @@ public final class AngleChains {
                 || !areSame(oa, pairAt(packed, 0, 4))) {
                 return false;
             }
-            joinCircle(bitsOf(packed >> 3, 4));
+            int four = bitsOf(packed >> 3, 4);
+            if (!areOnCircle(four)) {
+                joinCircle(four);
+            }
             return true;
         }
 
@@ -1011,7 +1030,7 @@ public final class AngleChains {
             return 12 * low + high;
         }
 
-        /** Pairs with POINTS that are not there stand behind nothing and are not counted. */
+        /** The rows have room for seven POINTS, but pairs with one that is not there do not count. */
         private boolean isThere(int pair) {
             return PAIR_BITS[pair] < 1 << figure.size;
         }
@@ -1040,9 +1059,8 @@ public final class AngleChains {
         int countWideCircles() {
             int count = 0;
             for (int i = 0; i < TRIPLES.length; i++) {
-                int bits = circleOf[TRIPLES[i]];
-                int rest = bits & ~TRIPLES[i];
-                if (rest > TRIPLES[i] && Integer.lowestOneBit(rest) > TRIPLES[i]) {
+                int rest = circleOf[TRIPLES[i]] & ~TRIPLES[i];
+                if (Integer.lowestOneBit(rest) > TRIPLES[i]) {
                     count++;
                 }
             }
