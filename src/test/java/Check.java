@@ -1,5 +1,8 @@
-/** What the tests share: counting wrong answers, and figures and FACTS in one line. */
+/** What the tests share: the sentence that is tested, and counting wrong answers. */
 final class Check {
+  static final int NONE = -1;
+  static final int FALSE = -2;
+
   static final int COLLINEAR = 0;
   static final int PARALLEL = 1;
   static final int PERPENDICULAR = 2;
@@ -8,53 +11,46 @@ final class Check {
   static final int MIDDLE = 5;
   static final int ANGLE = 6;
 
+  /** How many POINTS a FACT of each kind has. */
+  static final int[] SIZES = {3, 4, 4, 4, 4, 3, 8};
+
+  /** No kinds, no POINTS of seven, no HYPOTHESES of thirty, some of them so when bits wrap around. */
+  static final int[] ODD = {
+    Integer.MIN_VALUE, Integer.MIN_VALUE + 1, -(1 << 24), -65536, -1001, -256, -32, -31, -30, -8, -7, -2, -1,
+    30, 31, 32, 33, 62, 64, 255, 256, 257, 1001, 65536, 1 << 24, 1 << 29, 1 << 30, Integer.MAX_VALUE - 1, Integer.MAX_VALUE};
+
+  private static String about = "";
+  private static int sentences = 0;
   private static int asked = 0;
   private static int wrong = 0;
 
   private Check() {
   }
 
+  /** The answers from here on are due by these words of that part of the document. */
+  static void sentence(String part, String words) {
+    about = part + ", \"" + words + "\": ";
+    sentences++;
+  }
+
   static void due(String what, long got, long want) {
+    due(what, Long.toString(got), Long.toString(want));
+  }
+
+  static void due(String what, boolean got, boolean want) {
+    due(what, Boolean.toString(got), Boolean.toString(want));
+  }
+
+  static void due(String what, String got, String want) {
     asked++;
-    if (got != want) {
+    if (!got.equals(want)) {
       wrong++;
-      System.out.println(what + " answered " + got + ", due is " + want);
+      System.out.println(about + what + " answered " + got + ", due is " + want);
     }
   }
 
   static void end() {
-    System.out.println(asked + " answers, " + wrong + " not as due");
+    System.out.println(sentences + " sentences, " + asked + " answers, " + wrong + " not as due");
     if (wrong != 0) System.exit(1);
-  }
-
-  /** x0, y0, x1, y1, .. */
-  static AngleChains figure(int... places) {
-    AngleChains chains = new AngleChains();
-    for (int i = 0; i + 1 < places.length; i += 2) due("point", chains.point(places[i], places[i + 1]), i / 2);
-    return chains;
-  }
-
-  static void draft(AngleChains chains, int... points) {
-    for (int point : points) chains.of(point);
-  }
-
-  static int isTrue(AngleChains chains, int kind, int... points) {
-    draft(chains, points);
-    return chains.isTrue(kind);
-  }
-
-  static int fact(AngleChains chains, int kind, int... points) {
-    draft(chains, points);
-    return chains.fact(kind);
-  }
-
-  static int follows(AngleChains chains, int kind, int... points) {
-    draft(chains, points);
-    return chains.follows(kind);
-  }
-
-  static int needs(AngleChains chains, int kind, int... points) {
-    draft(chains, points);
-    return chains.needs(kind);
   }
 }

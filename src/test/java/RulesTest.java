@@ -9,45 +9,46 @@ public final class RulesTest {
   private static final int ANGLE = Check.ANGLE;
 
   /** The FACT FOLLOWS from all HYPOTHESES, needs each, and without any one of them it is gone. */
-  private static void needsAll(String rule, AngleChains x, int kind, int... points) {
+  private static void needsAll(String rule, Counted x, int kind, int... points) {
     int all = x.told(1);
-    Check.due(rule + " follows", Check.follows(x, kind, points), 1);
-    Check.due(rule + " needs", Check.needs(x, kind, points), all);
+    Check.due(rule + " follows", x.follows(kind, points), 1);
+    Check.due(rule + " needs", x.needs(kind, points), all);
     for (int h = 0; h < all; h++) {
       Check.due(rule + " need", x.need(h), h);
       x.turn(h, false);
-      Check.due(rule + " without " + h, Check.follows(x, kind, points), 0);
-      Check.due(rule + " needs without " + h, Check.needs(x, kind, points), 0);
+      Check.due(rule + " without " + h, x.follows(kind, points), 0);
+      Check.due(rule + " needs without " + h, x.needs(kind, points), 0);
       Check.due(rule + " need then", x.need(0), -1);
       x.turn(h, true);
-      Check.needs(x, kind, points);
+      x.needs(kind, points);
     }
-    Check.due(rule + " follows again", Check.follows(x, kind, points), 1);
+    Check.due(rule + " follows again", x.follows(kind, points), 1);
   }
 
   private static void lines() {
-    AngleChains x = Check.figure(0, 0, 1, 0, 3, 0, 0, 5);
-    Check.fact(x, PARALLEL, 0, 1, 1, 2);
+    Check.sentence("Terms", "1 two LINES with a POINT in common, and their DIRECTIONS differ by 0: they are one");
+    Counted x = Counted.figure(0, 0, 1, 0, 3, 0, 0, 5);
+    x.fact(PARALLEL, 0, 1, 1, 2);
     needsAll("1", x, COLLINEAR, 0, 1, 2);
     Check.due("1 line", x.line(0, 2), 7);
     Check.due("1 lines", x.told(4), 4);
     Check.due("1 rows of the lines that are left", x.told(7), 0);
-    AngleChains y = Check.figure(0, 0, 1, 0, 3, 0, 0, 5);
-    Check.fact(y, PERPENDICULAR, 0, 1, 0, 3);
-    Check.fact(y, PERPENDICULAR, 3, 0, 2, 1);
+    Counted y = Counted.figure(0, 0, 1, 0, 3, 0, 0, 5);
+    y.fact(PERPENDICULAR, 0, 1, 0, 3);
+    y.fact(PERPENDICULAR, 3, 0, 2, 1);
     needsAll("1 across", y, COLLINEAR, 2, 0, 1);
     Check.due("1 across rows", y.told(7), 1);
-    Check.due("1 across, another line", Check.follows(y, PERPENDICULAR, 0, 2, 0, 3), 1);
-    AngleChains far = Check.figure(0, 0, 1, 0, 3, 0, 4, 0);
-    Check.fact(far, PARALLEL, 0, 1, 2, 3);
-    Check.due("no point in common", Check.follows(far, COLLINEAR, 0, 1, 2), 0);
+    Check.due("1 across, another line", y.follows(PERPENDICULAR, 0, 2, 0, 3), 1);
+    Counted far = Counted.figure(0, 0, 1, 0, 3, 0, 4, 0);
+    far.fact(PARALLEL, 0, 1, 2, 3);
+    Check.due("no point in common", far.follows(COLLINEAR, 0, 1, 2), 0);
     Check.due("no point in common, rows", far.told(7), 1);
-    AngleChains joined = Check.figure(0, 0, 1, 0, 3, 0, 4, 0, 9, 0);
-    Check.fact(joined, COLLINEAR, 0, 1, 2);
-    Check.fact(joined, COLLINEAR, 2, 3, 4);
+    Counted joined = Counted.figure(0, 0, 1, 0, 3, 0, 4, 0, 9, 0);
+    joined.fact(COLLINEAR, 0, 1, 2);
+    joined.fact(COLLINEAR, 2, 3, 4);
     Check.due("two lines, one point", joined.line(0, 4), 17);
     Check.due("two lines", joined.told(4), 6);
-    Check.fact(joined, COLLINEAR, 0, 1, 3);
+    joined.fact(COLLINEAR, 0, 1, 3);
     Check.due("two points in common", joined.line(0, 4), 31);
     Check.due("one line", joined.told(4), 1);
     Check.due("no circles there", joined.told(5), 0);
@@ -55,211 +56,221 @@ public final class RulesTest {
   }
 
   private static void circles() {
+    Check.sentence("Terms", "2 a, b, c, d on one CIRCLE: d(ac) - d(bc) - d(ad) + d(bd) = 0.   3 that, and a, b, c proper, a, b, d proper: they are on one CIRCLE");
     int[] places = {5, 0, 3, 4, -4, 3, 0, -5, -5, 0};
-    AngleChains x = Check.figure(places);
-    Check.fact(x, CIRCLE, 0, 1, 2, 3);
+    Counted x = Counted.figure(places);
+    x.fact(CIRCLE, 0, 1, 2, 3);
     needsAll("2", x, ANGLE, 0, 2, 1, 2, 0, 3, 1, 3);
-    Check.due("2 in another order", Check.follows(x, ANGLE, 3, 0, 2, 0, 3, 1, 2, 1), 1);
+    Check.due("2 in another order", x.follows(ANGLE, 3, 0, 2, 0, 3, 1, 2, 1), 1);
     Check.due("2 rows", x.told(7), 2);
     Check.due("2 circles", x.told(5), 1);
     Check.due("2 circle", x.circle(3, 1, 0), 15);
     Check.due("2 no fifth", x.circle(3, 1, 4), 26);
-    Check.fact(x, CIRCLE, 4, 0, 1, 2);
+    x.fact(CIRCLE, 4, 0, 1, 2);
     Check.due("three in common", x.circle(3, 1, 4), 31);
     Check.due("one circle", x.told(5), 1);
-    Check.due("all four", Check.follows(x, CIRCLE, 4, 3, 2, 1), 1);
-    AngleChains two = Check.figure(places);
-    Check.fact(two, ANGLE, 0, 2, 1, 2, 0, 3, 1, 3);
+    Check.due("all four", x.follows(CIRCLE, 4, 3, 2, 1), 1);
+    Counted two = Counted.figure(places);
+    two.fact(ANGLE, 0, 2, 1, 2, 0, 3, 1, 3);
     needsAll("3", two, CIRCLE, 3, 2, 1, 0);
-    Check.due("3 and 2", Check.follows(two, ANGLE, 0, 1, 2, 1, 0, 3, 2, 3), 1);
-    AngleChains row = Check.figure(0, 0, 1, 0, 3, 0, 4, 0, 0, 1);
-    Check.fact(row, COLLINEAR, 0, 1, 2);
-    Check.fact(row, COLLINEAR, 0, 1, 3);
-    Check.due("a line is no circle", Check.follows(row, CIRCLE, 0, 1, 2, 3), -2);
-    Check.due("a line is no circle", Check.needs(row, CIRCLE, 0, 1, 2, 3), -2);
+    Check.due("3 and 2", two.follows(ANGLE, 0, 1, 2, 1, 0, 3, 2, 3), 1);
+    Counted row = Counted.figure(0, 0, 1, 0, 3, 0, 4, 0, 0, 1);
+    row.fact(COLLINEAR, 0, 1, 2);
+    row.fact(COLLINEAR, 0, 1, 3);
+    Check.due("a line is no circle", row.follows(CIRCLE, 0, 1, 2, 3), -2);
+    Check.due("a line is no circle", row.needs(CIRCLE, 0, 1, 2, 3), -2);
     Check.due("no circles", row.told(5), 0);
     Check.due("three alone", row.circle(0, 1, 4), 19);
   }
 
   private static void isosceles() {
-    AngleChains x = Check.figure(0, 3, -2, 0, 2, 0);
-    Check.fact(x, EQUAL, 0, 1, 0, 2);
+    Check.sentence("Terms", "4 |ab| = |ac|, proper: d(ab) + d(ac) - 2 d(bc) = 0.   5 that, proper: |ab| = |ac|");
+    Counted x = Counted.figure(0, 3, -2, 0, 2, 0);
+    x.fact(EQUAL, 0, 1, 0, 2);
     needsAll("4", x, ANGLE, 0, 1, 1, 2, 1, 2, 0, 2);
-    AngleChains back = Check.figure(0, 3, -2, 0, 2, 0);
-    Check.fact(back, ANGLE, 1, 2, 0, 1, 2, 0, 1, 2);
+    Counted back = Counted.figure(0, 3, -2, 0, 2, 0);
+    back.fact(ANGLE, 1, 2, 0, 1, 2, 0, 1, 2);
     needsAll("5", back, EQUAL, 2, 0, 1, 0);
-    AngleChains flat = Check.figure(0, 0, -2, 0, 2, 0);
-    Check.fact(flat, EQUAL, 0, 1, 0, 2);
-    Check.due("4 not proper", Check.follows(flat, ANGLE, 0, 1, 1, 2, 1, 2, 0, 2), 0);
+    Counted flat = Counted.figure(0, 0, -2, 0, 2, 0);
+    flat.fact(EQUAL, 0, 1, 0, 2);
+    Check.due("4 not proper", flat.follows(ANGLE, 0, 1, 1, 2, 1, 2, 0, 2), 0);
     Check.due("4 not proper, rows", flat.told(7), 0);
-    AngleChains turned = Check.figure(0, 0, -2, 0, 2, 0);
-    Check.fact(turned, ANGLE, 0, 1, 1, 2, 1, 2, 0, 2);
-    Check.due("5 not proper", Check.follows(turned, EQUAL, 0, 1, 0, 2), 0);
+    Counted turned = Counted.figure(0, 0, -2, 0, 2, 0);
+    turned.fact(ANGLE, 0, 1, 1, 2, 1, 2, 0, 2);
+    Check.due("5 not proper", turned.follows(EQUAL, 0, 1, 0, 2), 0);
     Check.due("5 not proper, lines", turned.told(4), 3);
   }
 
   private static void diameters() {
-    AngleChains x = Check.figure(0, 0, 5, 0, -5, 0, 3, 4);
-    Check.fact(x, MIDDLE, 0, 1, 2);
-    Check.fact(x, EQUAL, 0, 3, 0, 2);
+    Check.sentence("Terms", "6 o on the LINE of a and b, |oa| = |ob|, |oa| = |oc|, a, b, c proper: d(ac) - d(bc) = 1.   7 o on the LINE of a and b, |oa| = |ob|, a, b, c proper, d(ac) - d(bc) = 1: |oa| = |oc|");
+    Counted x = Counted.figure(0, 0, 5, 0, -5, 0, 3, 4);
+    x.fact(MIDDLE, 0, 1, 2);
+    x.fact(EQUAL, 0, 3, 0, 2);
     needsAll("6", x, PERPENDICULAR, 1, 3, 2, 3);
-    AngleChains back = Check.figure(0, 0, 5, 0, -5, 0, 3, 4);
-    Check.fact(back, PERPENDICULAR, 3, 2, 3, 1);
-    Check.fact(back, MIDDLE, 0, 2, 1);
+    Counted back = Counted.figure(0, 0, 5, 0, -5, 0, 3, 4);
+    back.fact(PERPENDICULAR, 3, 2, 3, 1);
+    back.fact(MIDDLE, 0, 2, 1);
     needsAll("7", back, EQUAL, 0, 3, 0, 1);
-    AngleChains parts = Check.figure(0, 0, 5, 0, -5, 0, 3, 4);
-    Check.fact(parts, PERPENDICULAR, 3, 2, 3, 1);
-    Check.fact(parts, EQUAL, 0, 1, 0, 2);
-    Check.fact(parts, COLLINEAR, 0, 1, 2);
+    Counted parts = Counted.figure(0, 0, 5, 0, -5, 0, 3, 4);
+    parts.fact(PERPENDICULAR, 3, 2, 3, 1);
+    parts.fact(EQUAL, 0, 1, 0, 2);
+    parts.fact(COLLINEAR, 0, 1, 2);
     needsAll("7 in parts", parts, EQUAL, 0, 3, 0, 1);
-    Check.due("a middle follows", Check.follows(parts, MIDDLE, 0, 1, 2), 1);
+    Check.due("a middle follows", parts.follows(MIDDLE, 0, 1, 2), 1);
   }
 
   private static void centres() {
-    AngleChains x = Check.figure(0, 0, 5, 0, 3, 4, -4, 3, 0, -5);
-    Check.fact(x, EQUAL, 0, 1, 0, 2);
-    Check.fact(x, EQUAL, 0, 2, 0, 3);
-    Check.fact(x, EQUAL, 0, 4, 0, 1);
+    Check.sentence("Terms", "8 |oa| = |ob|, |oa| = |oc|, |oa| = |od|, a, b, c proper: a, b, c, d are on one CIRCLE");
+    Counted x = Counted.figure(0, 0, 5, 0, 3, 4, -4, 3, 0, -5);
+    x.fact(EQUAL, 0, 1, 0, 2);
+    x.fact(EQUAL, 0, 2, 0, 3);
+    x.fact(EQUAL, 0, 4, 0, 1);
     needsAll("8", x, CIRCLE, 1, 2, 3, 4);
     Check.due("8 lengths", x.told(6), 7);
-    AngleChains side = Check.figure(0, 0, 5, 0, 3, 4, -4, 3, 0, -5);
-    Check.fact(side, CIRCLE, 1, 2, 3, 4);
-    Check.due("no centre follows", Check.follows(side, EQUAL, 0, 1, 0, 2), 0);
+    Counted side = Counted.figure(0, 0, 5, 0, 3, 4, -4, 3, 0, -5);
+    side.fact(CIRCLE, 1, 2, 3, 4);
+    Check.due("no centre follows", side.follows(EQUAL, 0, 1, 0, 2), 0);
   }
 
   private static void bisectors() {
-    AngleChains x = Check.figure(0, 0, 4, 0, 2, 1, 2, -3);
-    Check.fact(x, EQUAL, 2, 0, 2, 1);
-    Check.fact(x, EQUAL, 3, 0, 3, 1);
+    Check.sentence("Terms", "9 |pa| = |pb|, |qa| = |qb|: d(pq) - d(ab) = 1.   10 |pa| = |pb|, d(pq) - d(ab) = 1: |qa| = |qb|");
+    Counted x = Counted.figure(0, 0, 4, 0, 2, 1, 2, -3);
+    x.fact(EQUAL, 2, 0, 2, 1);
+    x.fact(EQUAL, 3, 0, 3, 1);
     needsAll("9", x, PERPENDICULAR, 2, 3, 0, 1);
-    AngleChains back = Check.figure(0, 0, 4, 0, 2, 1, 2, -3);
-    Check.fact(back, EQUAL, 2, 0, 2, 1);
-    Check.fact(back, PERPENDICULAR, 2, 3, 0, 1);
+    Counted back = Counted.figure(0, 0, 4, 0, 2, 1, 2, -3);
+    back.fact(EQUAL, 2, 0, 2, 1);
+    back.fact(PERPENDICULAR, 2, 3, 0, 1);
     needsAll("10", back, EQUAL, 3, 0, 3, 1);
-    AngleChains other = Check.figure(0, 0, 4, 0, 2, 1, 2, -3);
-    Check.fact(other, EQUAL, 3, 0, 3, 1);
-    Check.fact(other, PERPENDICULAR, 2, 3, 0, 1);
+    Counted other = Counted.figure(0, 0, 4, 0, 2, 1, 2, -3);
+    other.fact(EQUAL, 3, 0, 3, 1);
+    other.fact(PERPENDICULAR, 2, 3, 0, 1);
     needsAll("10 from the other", other, EQUAL, 2, 0, 2, 1);
-    AngleChains middle = Check.figure(0, 0, 4, 0, 2, 0, 2, 3);
-    Check.fact(middle, MIDDLE, 2, 0, 1);
-    Check.fact(middle, PERPENDICULAR, 2, 3, 0, 2);
+    Counted middle = Counted.figure(0, 0, 4, 0, 2, 0, 2, 3);
+    middle.fact(MIDDLE, 2, 0, 1);
+    middle.fact(PERPENDICULAR, 2, 3, 0, 2);
     needsAll("10 from the middle", middle, EQUAL, 3, 0, 3, 1);
   }
 
   private static void midlines() {
-    AngleChains x = Check.figure(0, 0, 6, 0, 2, 8, 3, 0, 1, 4);
-    Check.fact(x, MIDDLE, 3, 0, 1);
-    Check.fact(x, MIDDLE, 4, 2, 0);
+    Check.sentence("Terms", "11 m on the LINE of a and b, |ma| = |mb|, n on that of a and c, |na| = |nc|, a, b, c proper: d(mn) - d(bc) = 0");
+    Counted x = Counted.figure(0, 0, 6, 0, 2, 8, 3, 0, 1, 4);
+    x.fact(MIDDLE, 3, 0, 1);
+    x.fact(MIDDLE, 4, 2, 0);
     needsAll("11", x, PARALLEL, 3, 4, 1, 2);
     Check.due("11 no lengths", x.told(6), 8);
-    AngleChains flat = Check.figure(0, 0, 6, 0, 4, 0, 3, 0, 2, 0);
-    Check.fact(flat, EQUAL, 3, 0, 3, 1);
-    Check.fact(flat, EQUAL, 4, 2, 4, 0);
-    Check.due("11 not on the lines", Check.follows(flat, PARALLEL, 3, 4, 1, 2), 0);
+    Counted flat = Counted.figure(0, 0, 6, 0, 4, 0, 3, 0, 2, 0);
+    flat.fact(EQUAL, 3, 0, 3, 1);
+    flat.fact(EQUAL, 4, 2, 4, 0);
+    Check.due("11 not on the lines", flat.follows(PARALLEL, 3, 4, 1, 2), 0);
   }
 
   private static void parallelograms() {
-    AngleChains x = Check.figure(0, 0, 3, 0, 1, 2, 4, 2);
-    Check.fact(x, PARALLEL, 0, 1, 2, 3);
-    Check.fact(x, PARALLEL, 0, 2, 1, 3);
+    Check.sentence("Terms", "12 d(ab) - d(cd) = 0, d(ac) - d(bd) = 0, a, b, c proper: |ab| = |cd|, |ac| = |bd|");
+    Counted x = Counted.figure(0, 0, 3, 0, 1, 2, 4, 2);
+    x.fact(PARALLEL, 0, 1, 2, 3);
+    x.fact(PARALLEL, 0, 2, 1, 3);
     needsAll("12", x, EQUAL, 0, 1, 2, 3);
     needsAll("12", x, EQUAL, 0, 2, 1, 3);
     Check.due("12 lengths", x.told(6), 4);
-    AngleChains flat = Check.figure(0, 0, 1, 0, 3, 0, 4, 0);
-    Check.fact(flat, COLLINEAR, 0, 1, 2);
-    Check.fact(flat, COLLINEAR, 0, 1, 3);
-    Check.due("12 not proper", Check.follows(flat, EQUAL, 0, 1, 2, 3), 0);
+    Counted flat = Counted.figure(0, 0, 1, 0, 3, 0, 4, 0);
+    flat.fact(COLLINEAR, 0, 1, 2);
+    flat.fact(COLLINEAR, 0, 1, 3);
+    Check.due("12 not proper", flat.follows(EQUAL, 0, 1, 2, 3), 0);
     Check.due("12 not proper, lengths", flat.told(6), 6);
   }
 
   private static void rows() {
-    AngleChains x = Check.figure(0, 0, 3, 0, 0, 2, 5, 1, 6, 1);
-    Check.fact(x, ANGLE, 0, 1, 0, 2, 0, 2, 0, 1);
-    Check.due("twice a row", Check.follows(x, PERPENDICULAR, 0, 1, 0, 2), 0);
+    Check.sentence("Terms", "What follows of ROWS are all sums of whole multiples of those that came");
+    Counted x = Counted.figure(0, 0, 3, 0, 0, 2, 5, 1, 6, 1);
+    x.fact(ANGLE, 0, 1, 0, 2, 0, 2, 0, 1);
+    Check.due("twice a row", x.follows(PERPENDICULAR, 0, 1, 0, 2), 0);
     Check.due("twice a row", x.told(7), 1);
-    Check.due("turned round", Check.follows(x, ANGLE, 0, 2, 0, 1, 0, 1, 0, 2), 1);
-    Check.fact(x, PERPENDICULAR, 0, 1, 0, 2);
+    Check.due("turned round", x.follows(ANGLE, 0, 2, 0, 1, 0, 1, 0, 2), 1);
+    x.fact(PERPENDICULAR, 0, 1, 0, 2);
     Check.due("the row", x.told(7), 1);
-    Check.due("the row needs", Check.needs(x, ANGLE, 0, 1, 0, 2, 0, 2, 0, 1), 1);
+    Check.due("the row needs", x.needs(ANGLE, 0, 1, 0, 2, 0, 2, 0, 1), 1);
     Check.due("the first is enough", x.need(0), 0);
-    Check.fact(x, PERPENDICULAR, 0, 2, 3, 4);
-    Check.due("two right angles", Check.needs(x, PARALLEL, 0, 1, 3, 4), 2);
+    x.fact(PERPENDICULAR, 0, 2, 3, 4);
+    Check.due("two right angles", x.needs(PARALLEL, 0, 1, 3, 4), 2);
     Check.due("two right angles", x.need(0) * 10 + x.need(1), 12);
     Check.due("two right angles, rows", x.told(7), 2);
-    AngleChains none = Check.figure(0, 0, 3, 0, 0, 2);
-    Check.due("a line to itself", Check.follows(none, PARALLEL, 0, 1, 1, 0), 1);
-    Check.due("from none", Check.needs(none, PARALLEL, 0, 1, 1, 0), 0);
-    Check.due("a turn to itself", Check.follows(none, ANGLE, 0, 1, 0, 2, 0, 1, 0, 2), 1);
-    Check.due("a length to itself", Check.follows(none, EQUAL, 0, 1, 1, 0), 1);
-    Check.due("not TRUE", Check.follows(none, PERPENDICULAR, 0, 1, 0, 1), -2);
-    Check.fact(none, PARALLEL, 0, 1, 1, 0);
+    Counted none = Counted.figure(0, 0, 3, 0, 0, 2);
+    Check.due("a line to itself", none.follows(PARALLEL, 0, 1, 1, 0), 1);
+    Check.due("from none", none.needs(PARALLEL, 0, 1, 1, 0), 0);
+    Check.due("a turn to itself", none.follows(ANGLE, 0, 1, 0, 2, 0, 1, 0, 2), 1);
+    Check.due("a length to itself", none.follows(EQUAL, 0, 1, 1, 0), 1);
+    Check.due("not TRUE", none.follows(PERPENDICULAR, 0, 1, 0, 1), -2);
+    none.fact(PARALLEL, 0, 1, 1, 0);
     Check.due("nothing came", none.told(7), 0);
-    Check.due("still from none", Check.needs(none, PARALLEL, 0, 1, 1, 0), 0);
+    Check.due("still from none", none.needs(PARALLEL, 0, 1, 1, 0), 0);
     // 2 x = 0 and 2 y = 0, for x = d(01) - d(46) and y = d(23) - d(46), are not x - y = 0.
-    AngleChains halves = Check.figure(0, 0, 1, 0, 0, 1, 2, 1, 5, 0, 9, 7, 5, 4);
-    Check.fact(halves, ANGLE, 0, 1, 4, 6, 4, 6, 0, 1);
-    Check.fact(halves, ANGLE, 2, 3, 4, 6, 4, 6, 2, 3);
-    Check.due("two halves", Check.follows(halves, PARALLEL, 0, 1, 2, 3), 0);
-    Check.due("two wholes", Check.needs(halves, ANGLE, 0, 1, 2, 3, 2, 3, 0, 1), 2);
+    Counted halves = Counted.figure(0, 0, 1, 0, 0, 1, 2, 1, 5, 0, 9, 7, 5, 4);
+    halves.fact(ANGLE, 0, 1, 4, 6, 4, 6, 0, 1);
+    halves.fact(ANGLE, 2, 3, 4, 6, 4, 6, 2, 3);
+    Check.due("two halves", halves.follows(PARALLEL, 0, 1, 2, 3), 0);
+    Check.due("two wholes", halves.needs(ANGLE, 0, 1, 2, 3, 2, 3, 0, 1), 2);
     Check.due("two rows", halves.told(7), 2);
     // On a line all directions are the same: 2 x = 0 and 3 x = 0 make x = 0, for x = d(01) - d(23).
-    AngleChains divided = Check.figure(0, 0, 1, 0, 2, 0, 3, 0, 4, 0, 5, 0, 6, 0);
-    Check.fact(divided, ANGLE, 0, 1, 2, 3, 2, 3, 0, 1);
-    Check.due("2 x", Check.follows(divided, PARALLEL, 0, 1, 2, 3), 0);
-    Check.fact(divided, ANGLE, 0, 1, 2, 3, 4, 5, 2, 3);
-    Check.fact(divided, ANGLE, 4, 5, 2, 3, 2, 3, 0, 1);
+    Counted divided = Counted.figure(0, 0, 1, 0, 2, 0, 3, 0, 4, 0, 5, 0, 6, 0);
+    divided.fact(ANGLE, 0, 1, 2, 3, 2, 3, 0, 1);
+    Check.due("2 x", divided.follows(PARALLEL, 0, 1, 2, 3), 0);
+    divided.fact(ANGLE, 0, 1, 2, 3, 4, 5, 2, 3);
+    divided.fact(ANGLE, 4, 5, 2, 3, 2, 3, 0, 1);
     Check.due("rows", divided.told(7), 2);
-    Check.fact(divided, ANGLE, 2, 3, 4, 6, 4, 5, 2, 3);
-    Check.fact(divided, ANGLE, 2, 3, 4, 6, 4, 6, 0, 1);
-    Check.due("3 x and 2 x", Check.follows(divided, PARALLEL, 0, 1, 2, 3), 1);
+    divided.fact(ANGLE, 2, 3, 4, 6, 4, 5, 2, 3);
+    divided.fact(ANGLE, 2, 3, 4, 6, 4, 6, 0, 1);
+    Check.due("3 x and 2 x", divided.follows(PARALLEL, 0, 1, 2, 3), 1);
   }
 
   private static void needed() {
-    AngleChains x = Check.figure(0, 0, 1, 0, 3, 0, 0, 5, 1, 5);
-    Check.fact(x, PARALLEL, 0, 1, 3, 4);
-    Check.fact(x, COLLINEAR, 0, 1, 2);
-    Check.fact(x, PARALLEL, 0, 2, 3, 4);
-    Check.due("the last can be left out", Check.needs(x, PARALLEL, 1, 2, 3, 4), 2);
+    Check.sentence("Promise 8", "from the last one of them to the first, each that can be left out");
+    Counted x = Counted.figure(0, 0, 1, 0, 3, 0, 0, 5, 1, 5);
+    x.fact(PARALLEL, 0, 1, 3, 4);
+    x.fact(COLLINEAR, 0, 1, 2);
+    x.fact(PARALLEL, 0, 2, 3, 4);
+    Check.due("the last can be left out", x.needs(PARALLEL, 1, 2, 3, 4), 2);
     Check.due("first", x.need(0), 0);
     Check.due("second", x.need(1), 1);
     Check.due("no third", x.need(2), -1);
     Check.due("none before the first", x.need(-1), -1);
-    Check.due("refused", Check.needs(x, PARALLEL, 1, 2, 3), -1);
+    Check.due("refused", x.needs(PARALLEL, 1, 2, 3), -1);
     Check.due("stays", x.need(1), 1);
-    Check.due("not TRUE", Check.needs(x, PARALLEL, 0, 3, 3, 4), -2);
+    Check.due("not TRUE", x.needs(PARALLEL, 0, 3, 3, 4), -2);
     Check.due("stays", x.need(1), 1);
     x.turn(0, false);
     Check.due("stays when turned", x.need(0), 0);
-    Check.due("now the last", Check.needs(x, PARALLEL, 1, 2, 3, 4), 2);
+    Check.due("now the last", x.needs(PARALLEL, 1, 2, 3, 4), 2);
     Check.due("first", x.need(0), 1);
     Check.due("second", x.need(1), 2);
     Check.due("needs changes nothing", x.told(2), 2);
-    Check.due("two ways to a line: the first", Check.needs(x, COLLINEAR, 0, 1, 2), 1);
+    Check.due("two ways to a line: the first", x.needs(COLLINEAR, 0, 1, 2), 1);
     Check.due("that one", x.need(0), 1);
     x.turn(0, true);
     x.turn(1, false);
-    Check.due("by directions", Check.needs(x, COLLINEAR, 2, 1, 0), 2);
+    Check.due("by directions", x.needs(COLLINEAR, 2, 1, 0), 2);
     Check.due("by directions", x.need(0) * 10 + x.need(1), 2);
-    Check.due("does not follow", Check.needs(x, PERPENDICULAR, 0, 1, 0, 3), 0);
+    Check.due("does not follow", x.needs(PERPENDICULAR, 0, 1, 0, 3), 0);
     Check.due("empty then", x.need(0), -1);
   }
 
   /** The heights of a triangle meet in one point: circles on two sides, and angles from there on. */
   private static void heights() {
+    Check.sentence("Terms", "by the RULES again and again, till nothing new comes");
     // a, b, c, the feet d on bc and e on ac, h where ad and be meet
     int a = 0;
     int b = 1;
     int c = 2;
-    AngleChains z = Check.figure(0, 0, 10, 0, 4, 12, 8, 4, 1, 3, 4, 2);
-    Check.due("d on bc", Check.fact(z, COLLINEAR, 3, b, c), 0);
-    Check.due("ad over bc", Check.fact(z, PERPENDICULAR, a, 3, b, c), 1);
-    Check.due("e on ac", Check.fact(z, COLLINEAR, 4, a, c), 2);
-    Check.due("be over ac", Check.fact(z, PERPENDICULAR, b, 4, a, c), 3);
-    Check.due("h on ad", Check.fact(z, COLLINEAR, 5, a, 3), 4);
-    Check.due("h on be", Check.fact(z, COLLINEAR, 5, b, 4), 5);
-    Check.due("a, b, d, e", Check.follows(z, CIRCLE, a, b, 3, 4), 1);
-    Check.due("c, d, e, h", Check.follows(z, CIRCLE, c, 3, 4, 5), 1);
-    Check.due("the third height", Check.needs(z, PERPENDICULAR, c, 5, a, b), 6);
+    Counted z = Counted.figure(0, 0, 10, 0, 4, 12, 8, 4, 1, 3, 4, 2);
+    Check.due("d on bc", z.fact(COLLINEAR, 3, b, c), 0);
+    Check.due("ad over bc", z.fact(PERPENDICULAR, a, 3, b, c), 1);
+    Check.due("e on ac", z.fact(COLLINEAR, 4, a, c), 2);
+    Check.due("be over ac", z.fact(PERPENDICULAR, b, 4, a, c), 3);
+    Check.due("h on ad", z.fact(COLLINEAR, 5, a, 3), 4);
+    Check.due("h on be", z.fact(COLLINEAR, 5, b, 4), 5);
+    Check.due("a, b, d, e", z.follows(CIRCLE, a, b, 3, 4), 1);
+    Check.due("c, d, e, h", z.follows(CIRCLE, c, 3, 4, 5), 1);
+    Check.due("the third height", z.needs(PERPENDICULAR, c, 5, a, b), 6);
     Check.due("circles", z.told(5), 2);
   }
 
