@@ -902,7 +902,10 @@ public final class AngleChains {
             return false;
         }
 
-        /** Other orders of the four POINTS give these three rows again, or what they are times -1. */
+        /**
+         * Other orders of the four POINTS give one of three rows again, or what it is times -1; and
+         * the third is the difference of the two that are taken.
+         */
         private boolean triesCircle(int packed) {
             int ab = pairAt(packed, 0, 1);
             int ac = pairAt(packed, 0, 2);
@@ -920,8 +923,6 @@ public final class AngleChains {
             writeTurns(ac, bc, ad, bd);
             rows.takeWritten();
             writeTurns(ab, bc, ad, cd);
-            rows.takeWritten();
-            writeTurns(ab, bd, ac, cd);
             rows.takeWritten();
             return true;
         }

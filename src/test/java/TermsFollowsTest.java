@@ -3,6 +3,10 @@ public final class TermsFollowsTest {
   private static final String TERMS = "Terms";
   private static final String PROPER = "(\"proper\": not COLLINEAR in THE FIGURE)";
 
+  private static int[] f(int... points) {
+    return points;
+  }
+
   private static void linesAtFirst() {
     Check.sentence(TERMS, "each two POINTS are on just one; at first each two are one");
     Counted x = Counted.figure(0, 0, 1, 0, 2, 0, 3, 0, 4, 0, 5, 0, 6, 0);
@@ -187,6 +191,32 @@ public final class TermsFollowsTest {
     Check.due("3: they are on one CIRCLE", x.circle(0, 1, 2), 15);
     Check.due("LENGTHS", x.told(6), 4);
     Check.due("LINES", x.told(4), 6);
+    // The LINE comes by RULE 1 and brings no ROW that is new, but RULE 6 has waited for it.
+    int[][] orders = {{0, 1, 2, 3}, {1, 2, 3, 0}, {1, 2, 0, 3}, {2, 3, 1, 0}, {3, 1, 2, 0}, {3, 0, 1, 2}};
+    int[][] places = {{0, 0}, {5, 0}, {-5, 0}, {3, 4}};
+    for (int[] o : orders) {
+      Counted y = new Counted();
+      for (int number = 0; number < 4; number++) {
+        for (int p = 0; p < 4; p++) if (o[p] == number) y.point(places[p][0], places[p][1]);
+      }
+      y.fact(Check.EQUAL, o[0], o[1], o[0], o[2]);
+      y.fact(Check.EQUAL, o[0], o[1], o[0], o[3]);
+      Check.due("ROWS of the LENGTHS", y.told(7), 2);
+      y.fact(Check.PARALLEL, o[0], o[1], o[1], o[2]);
+      y.fact(Check.PARALLEL, o[0], o[1], o[0], o[2]);
+      Check.due("6 behind 1", y.follows(Check.PERPENDICULAR, o[1], o[3], o[2], o[3]), 1);
+      Check.due("6 behind 1", y.needs(Check.PERPENDICULAR, o[1], o[3], o[2], o[3]), 3);
+    }
+    // One half of what RULE 12 brings is there already, the other is not.
+    for (int half = 0; half < 2; half++) {
+      Counted z = Counted.figure(0, 0, 3, 0, 1, 2, 4, 2);
+      z.fact(Check.EQUAL, half == 0 ? f(0, 1, 2, 3) : f(0, 2, 1, 3));
+      Check.due("LENGTHS", z.told(6), 5);
+      z.fact(Check.PARALLEL, 0, 1, 2, 3);
+      z.fact(Check.PARALLEL, 0, 2, 1, 3);
+      Check.due("12: the other half", z.follows(Check.EQUAL, half == 0 ? f(0, 2, 1, 3) : f(0, 1, 2, 3)), 1);
+      Check.due("LENGTHS", z.told(6), 4);
+    }
   }
 
   private static void notProper() {
