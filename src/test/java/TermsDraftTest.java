@@ -226,10 +226,37 @@ public final class TermsDraftTest {
     refusedWithDraft("told(-1)", Check.NONE, x -> x.told(-1));
   }
 
+  private static void refusedPoint(String what, int size, int px, int py) {
+    int[] places = java.util.Arrays.copyOf(new int[] {0, 0, 4, 0, 0, 4, 9, 1, 2, 7, -3, 5, -8, -2}, 2 * size);
+    Counted with = Counted.figure(places);
+    Counted without = Counted.figure(places);
+    Check.due("of", with.of(1) + without.of(1), 2);
+    Check.due("of", with.of(0) + without.of(0), 4);
+    Check.due(what, with.point(px, py), Check.NONE);
+    Check.due("what is seen behind " + what, with.state(), without.state());
+    Check.due("THE DRAFT behind " + what, with.of(0), 3);
+    Check.due("THE DRAFT behind " + what, with.of(2), 4);
+    Check.due("THE DRAFT 1 0 0 2 behind " + what, with.isTrue(Check.PERPENDICULAR), 1);
+    if (size < 7) Check.due("the next point behind " + what, with.point(50, 60), size);
+  }
+
+  private static void refusedPoints() {
+    for (int size = 3; size <= 7; size++) {
+      refusedPoint("point(1001, 3) of " + size, size, 1001, 3);
+      refusedPoint("point(-1001, 3) of " + size, size, -1001, 3);
+      refusedPoint("point(3, 1001) of " + size, size, 3, 1001);
+      refusedPoint("point(3, -1001) of " + size, size, 3, -1001);
+      refusedPoint("point at the place of 0 of " + size, size, 0, 0);
+      refusedPoint("point at the place of 2 of " + size, size, 0, 4);
+    }
+    refusedPoint("an eighth point", 7, 50, 60);
+  }
+
   private static void changesNothingElse() {
     Check.sentence(TERMS, "what is refused changes nothing else");
     refusedTakers();
     refusedOthers();
+    refusedPoints();
     Counted full = rich();
     for (int i = 0; i < 8; i++) full.of(i % 4);
     String before = full.state();
