@@ -515,6 +515,12 @@ public final class AngleChains {
      * The ROWS that follow, as all sums of whole multiples of a basis. The basis is kept as stairs:
      * the row at c has its first number at column c (all 0: there is no such row), positive, and
      * the numbers above it in that column are smaller and not negative.
+     *
+     * No number outgrows a long. In each row that comes, those above 0 make 2 at most, those below
+     * as much, and together they are 0: so 20 rows at most are independent, and by Schinzel's
+     * inequality their minors are 2^20 at most. The product of the stairs' first numbers divides such
+     * a minor; from this a settled row has none beyond 2^20, and on the way there none is beyond
+     * 2^52, as long as a row is settled before it changes places with a stair.
      */
     private static final class Rows {
         /** The place of the 0 or 1 behind the numbers. */
@@ -578,6 +584,7 @@ public final class AngleChains {
                         subtract(row, row[c] / lead, c);
                     }
                     if (row[c] != 0) {
+                        settle(row, c + 1);
                         swapWithBasis(c);
                         isNew = true;
                     }
@@ -585,7 +592,10 @@ public final class AngleChains {
             }
             if (isNew) {
                 hasGrown = true;
-                settle();
+                // From the lowest stair up: so numbers are taken off by rows that are small already.
+                for (int c = MOST_PAIRS - 1; c >= 0; c--) {
+                    settle(basis[c], c + 1);
+                }
             }
         }
 
@@ -603,18 +613,12 @@ public final class AngleChains {
             row[SIDE] = oldSide;
         }
 
-        /** From the lowest stair up, so that numbers are taken off by rows that are small already. */
-        private void settle() {
-            for (int r = MOST_PAIRS - 1; r >= 0; r--) {
-                long[] stair = basis[r];
-                if (stair[r] != 0) {
-                    for (int c = r + 1; c < MOST_PAIRS; c++) {
-                        long lead = basis[c][c];
-                        if (stair[c] != 0 && lead != 0) {
-                            long times = stair[c] / lead;
-                            subtract(stair, stair[c] - times * lead < 0 ? times - 1 : times, c);
-                        }
-                    }
+        /** Makes a row's numbers small, from a column on, where there are stairs. */
+        private void settle(long[] target, int from) {
+            for (int c = from; c < MOST_PAIRS; c++) {
+                long lead = basis[c][c];
+                if (lead != 0) {
+                    subtract(target, Math.floorDiv(target[c], lead), c);
                 }
             }
         }

@@ -107,6 +107,54 @@ public final class TermsFigureTest {
     Check.due("four on a line", x.isTrue(Check.CIRCLE, 0, 5, 6, 1), 0);
   }
 
+  private static final String[] KINDS = {
+    "0 COLLINEAR a b c", "1 PARALLEL a b, c d", "2 PERPENDICULAR a b, c d", "3 CIRCLE a b c d: they are on a circle",
+    "4 EQUAL a b, c d: |ab| = |cd|", "5 MIDDLE m a b: m is the middle of a and b",
+    "6 ANGLE a b, c d, e f, g h: the turn that takes the direction of ab to that of cd takes that of ef to that of gh"};
+
+  /** FACTS of all kinds are TRUE in both; in the second there are four POINTS on a line. */
+  private static final int[][] FIGURES = {
+    {0, 0, 4, 0, 2, 0, 2, 3, 2, -3, 0, 3, 4, 3}, {5, 0, -5, 0, 0, 0, 3, 4, -4, 3, 0, -5, 1, 0}};
+
+  /** All FACTS of a kind; of kind 6 those with 0 1 as their first line, and of other lines the lower POINT first. */
+  private static void kind(int kind, int[] places) {
+    PlainModel model = new PlainModel();
+    for (int i = 0; i < places.length; i += 2) model.point(places[i], places[i + 1]);
+    int[] points = new int[Check.SIZES[kind]];
+    Counted x = Counted.figure(places);
+    int[] seen = new int[2];
+    boolean isLast = false;
+    while (!isLast) {
+      boolean isLowFirst = kind != Check.ANGLE
+        || points[0] == 0 && points[1] == 1 && points[2] < points[3] && points[4] < points[5] && points[6] < points[7];
+      if (isLowFirst && !isRefused(kind, points)) {
+        if (x.calls() > Counted.MOST_CALLS - 9) x = Counted.figure(places);
+        int want = model.isTrueFact(kind, points) ? 1 : 0;
+        seen[want]++;
+        Check.due(java.util.Arrays.toString(points), x.isTrue(kind, points), want);
+      }
+      isLast = !next(points, kind == Check.ANGLE ? 2 : 0);
+      if (kind == Check.ANGLE) points[1] = 1;
+    }
+    Check.due("some are TRUE, some are not", seen[0] > 0 && seen[1] > 0, true);
+  }
+
+  /** Counts on in the places from one on; whether there was a next. */
+  private static boolean next(int[] points, int from) {
+    for (int i = points.length - 1; i >= from; i--) {
+      points[i] = (points[i] + 1) % 7;
+      if (points[i] != 0) return true;
+    }
+    return false;
+  }
+
+  private static void kinds() {
+    for (int kind = 0; kind < 7; kind++) {
+      Check.sentence(TERMS, KINDS[kind]);
+      for (int[] places : FIGURES) kind(kind, places);
+    }
+  }
+
   /** Twice the middle, twice a turn: these are TRUE of whole numbers only when nothing is rounded. */
   private static void exactly() {
     Check.sentence(TERMS, "A FACT is TRUE when it is so in THE FIGURE, exactly");
@@ -197,6 +245,7 @@ public final class TermsFigureTest {
     different();
     sameLine();
     onCircle();
+    kinds();
     exactly();
     wrapAround();
     halfTurns();

@@ -143,15 +143,109 @@ public final class TermsFollowsTest {
     Check.due("no ROW is left", z.told(7), 0);
   }
 
+  /** LINES, CIRCLES of four, LENGTHS, ROWS. */
+  private static String counts(Counted x) {
+    return x.told(4) + " " + x.told(5) + " " + x.told(6) + " " + x.told(7);
+  }
+
+  /** One HYPOTHESIS of each kind alone: what it is for the DIRECTIONS, the LINES, the CIRCLES, the LENGTHS. */
   private static void hypotheses() {
+    int[] places = {0, 0, 4, 0, 2, 0, 0, 3, 4, 3, 7, 11};
+    Check.due("none", counts(Counted.figure(places)), "15 0 15 0");
+
+    Check.sentence(TERMS, "HYPOTHESES: 0: one LINE");
+    Counted zero = Counted.figure(places);
+    zero.fact(Check.COLLINEAR, 0, 1, 2);
+    Check.due("LINES, CIRCLES, LENGTHS, ROWS", counts(zero), "13 0 15 0");
+    Check.due("the LINE", zero.line(0, 1), 7);
+
+    Check.sentence(TERMS, "1: d(ab) - d(cd) = 0");
+    Counted one = Counted.figure(places);
+    one.fact(Check.PARALLEL, 0, 1, 3, 4);
+    Check.due("LINES, CIRCLES, LENGTHS, ROWS", counts(one), "15 0 15 1");
+    Check.due("from the other line", one.follows(Check.PARALLEL, 3, 4, 0, 1), 1);
+    Check.due("as turns from a third", one.follows(Check.ANGLE, 5, 0, 0, 1, 5, 0, 3, 4), 1);
+    Check.due("as turns to a third", one.follows(Check.ANGLE, 3, 4, 5, 1, 0, 1, 5, 1), 1);
+
+    Check.sentence(TERMS, "2: d(ab) - d(cd) = 1");
+    Counted two = Counted.figure(places);
+    two.fact(Check.PERPENDICULAR, 0, 1, 0, 3);
+    Check.due("LINES, CIRCLES, LENGTHS, ROWS", counts(two), "15 0 15 1");
+    Check.due("from the other line", two.follows(Check.PERPENDICULAR, 0, 3, 0, 1), 1);
+    Check.due("there and back", two.follows(Check.ANGLE, 0, 3, 0, 1, 0, 1, 0, 3), 1);
+
+    Check.sentence(TERMS, "3: one CIRCLE");
+    Counted three = Counted.figure(places);
+    three.fact(Check.CIRCLE, 0, 1, 3, 4);
+    Check.due("LINES, CIRCLES, LENGTHS, ROWS", counts(three), "15 1 15 2");
+    Check.due("the CIRCLE", three.circle(0, 1, 3), 27);
+
+    Check.sentence(TERMS, "4: EQUAL");
+    Counted four = Counted.figure(places);
+    four.fact(Check.EQUAL, 0, 1, 4, 3);
+    Check.due("LINES, CIRCLES, LENGTHS, ROWS", counts(four), "15 0 14 0");
+    Check.due("the LENGTH", four.length(3, 4), 1);
+
     Check.sentence(TERMS, "5: one LINE, and |ma| = |mb|");
-    Counted x = Counted.figure(0, 0, 4, 0, 2, 0);
-    x.fact(Check.MIDDLE, 2, 0, 1);
-    Check.due("the LINE", x.line(0, 1), 7);
-    Check.due("the LENGTH", x.length(1, 2), 2);
-    Check.due("the LENGTH of the whole", x.length(0, 1), 1);
-    Check.due("COLLINEAR", x.needs(Check.COLLINEAR, 0, 1, 2), 1);
-    Check.due("EQUAL", x.needs(Check.EQUAL, 2, 1, 2, 0), 1);
+    Counted five = Counted.figure(places);
+    five.fact(Check.MIDDLE, 2, 0, 1);
+    Check.due("LINES, CIRCLES, LENGTHS, ROWS", counts(five), "13 0 14 0");
+    Check.due("the LINE", five.line(0, 1), 7);
+    Check.due("the LENGTH", five.length(1, 2), 2);
+    Check.due("the LENGTH of the whole", five.length(0, 1), 1);
+    Check.due("COLLINEAR", five.needs(Check.COLLINEAR, 0, 1, 2), 1);
+    Check.due("EQUAL", five.needs(Check.EQUAL, 2, 1, 2, 0), 1);
+
+    Check.sentence(TERMS, "6: d(ab) - d(cd) - d(ef) + d(gh) = 0");
+    Counted six = Counted.figure(places);
+    six.fact(Check.ANGLE, 0, 1, 1, 3, 3, 4, 3, 1);
+    Check.due("d(13) - d(31) is 0", counts(six), "15 0 15 1");
+    Check.due("d(01) - d(34) is 0 then", six.follows(Check.PARALLEL, 0, 1, 3, 4), 1);
+    Counted turned = Counted.figure(places);
+    turned.fact(Check.ANGLE, 0, 1, 0, 4, 1, 3, 0, 1);
+    Check.due("LINES, CIRCLES, LENGTHS, ROWS", counts(turned), "15 0 15 1");
+    Check.due("the middle ones the other way", turned.follows(Check.ANGLE, 0, 1, 1, 3, 0, 4, 0, 1), 1);
+    Check.due("both turns the other way", turned.follows(Check.ANGLE, 0, 4, 0, 1, 0, 1, 1, 3), 1);
+    Check.due("the second turn first", turned.follows(Check.ANGLE, 1, 3, 0, 1, 0, 1, 0, 4), 1);
+    Check.due("one turn the other way", turned.isTrue(Check.ANGLE, 0, 4, 0, 1, 1, 3, 0, 1), 0);
+  }
+
+  private static void factsFollow() {
+    Check.sentence(TERMS, "A FACT FOLLOWS: 0: the three are on one LINE");
+    Counted zero = Counted.figure(0, 0, 1, 0, 3, 0, 4, 0);
+    zero.fact(Check.COLLINEAR, 0, 1, 2);
+    zero.fact(Check.COLLINEAR, 3, 1, 2);
+    Check.due("three that were not told", zero.needs(Check.COLLINEAR, 0, 3, 1), 2);
+
+    Check.sentence(TERMS, "3: the four are on one CIRCLE (any three of them that are proper have it)");
+    Counted three = Counted.figure(5, 0, 3, 4, 0, 5, -4, 3, -5, 0);
+    three.fact(Check.CIRCLE, 0, 1, 2, 3);
+    three.fact(Check.CIRCLE, 4, 3, 2, 1);
+    Check.due("four that were not told", three.needs(Check.CIRCLE, 0, 4, 1, 2), 2);
+    three.turn(1, false);
+    Check.due("three of them have it, the fourth is not on it", three.follows(Check.CIRCLE, 0, 1, 2, 4), 0);
+
+    Check.sentence(TERMS, "4: one LENGTH");
+    Counted four = Counted.figure(0, 0, 1, 0, 2, 0, 3, 0, 4, 0);
+    four.fact(Check.EQUAL, 0, 1, 1, 2);
+    four.fact(Check.EQUAL, 2, 3, 3, 4);
+    Check.due("two and two", four.follows(Check.EQUAL, 0, 1, 3, 4), 0);
+    four.fact(Check.EQUAL, 2, 1, 3, 2);
+    Check.due("two that were not told", four.needs(Check.EQUAL, 0, 1, 3, 4), 3);
+
+    Check.sentence(TERMS, "1, 2, 6: its ROW follows");
+    Counted rows = Counted.figure(0, 0, 4, 0, 0, 3, 4, 3, 9, 0, 9, 3);
+    rows.fact(Check.PERPENDICULAR, 0, 1, 0, 2);
+    rows.fact(Check.PERPENDICULAR, 2, 3, 0, 2);
+    rows.fact(Check.ANGLE, 0, 2, 0, 1, 2, 3, 4, 5);
+    Check.due("1: a sum of two", rows.needs(Check.PARALLEL, 0, 1, 2, 3), 2);
+    Check.due("2: a sum of two", rows.needs(Check.PERPENDICULAR, 4, 5, 2, 3), 2);
+    Check.due("2: a sum of two", rows.left(), "0 2 ");
+    Check.due("6: a sum of two", rows.needs(Check.ANGLE, 0, 1, 0, 2, 2, 3, 4, 5), 2);
+    Check.due("1: no sum", rows.follows(Check.PARALLEL, 4, 5, 1, 3), 0);
+    Check.due("2: no sum", rows.follows(Check.PERPENDICULAR, 0, 1, 1, 3), 0);
+    Check.due("6: no sum", rows.follows(Check.ANGLE, 0, 1, 0, 3, 2, 3, 2, 1), Check.FALSE);
+    Check.due("6: no sum", rows.follows(Check.ANGLE, 0, 1, 0, 3, 2, 1, 2, 3), 0);
   }
 
   private static void noMore() {
@@ -330,6 +424,7 @@ public final class TermsFollowsTest {
     rowsOfNone();
     addedNumbers();
     hypotheses();
+    factsFollow();
     noMore();
     againAndAgain();
     notProper();
